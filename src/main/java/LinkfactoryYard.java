@@ -271,7 +271,8 @@ public final class LinkfactoryYard {
         if (!isReach(reach)) {
             throw new IllegalArgumentException("reach is not 5 to 100");
         }
-        return countIslands(reach);
+        linker.attempt(stock, reach, NONE);
+        return linker.layout.islands;
     }
 
     public int faultsWithout(int object) throws IndexOutOfBoundsException {
@@ -299,8 +300,10 @@ public final class LinkfactoryYard {
         d = mixWords(d);
         d = mixRuns(d);
         d = mixPatches(d);
+        linker.attempt(stock, reachFromNow, NONE);
         d = mixFaults(d);
-        return mix(d, countIslands(SMALLEST_REACH));
+        linker.attempt(stock, SMALLEST_REACH, NONE);
+        return mix(d, linker.layout.islands);
     }
 
     // ---- what the arguments may be
@@ -391,17 +394,15 @@ public final class LinkfactoryYard {
         }
     }
 
-    private int countIslands(int reach) {
-        linker.attempt(stock, reach, NONE);
-        return linker.layout.islands;
-    }
-
     // ---- carrying patches out
 
     private void carryOutPatches() {
         // each round ends the waiting of one patch at least, so that there are never more rounds than patches
         for (int round = 0; round < MOST_PATCHES; round++) {
-            int next = firstThatCanBeDone();
+            int next = NONE;
+            for (int patch = 0; patch < patches.count && next == NONE; patch++) {
+                next = canBeDone(patch) ? patch : NONE;
+            }
             if (next == NONE) {
                 return;
             }
@@ -409,17 +410,8 @@ public final class LinkfactoryYard {
         }
     }
 
-    private int firstThatCanBeDone() {
-        for (int patch = 0; patch < patches.count; patch++) {
-            if (canBeDone(patch)) {
-                return patch;
-            }
-        }
-        return NONE;
-    }
-
     private boolean canBeDone(int patch) {
-        if (!isClear(patch)) {
+        if (!patches.isWaiting(patch)) {
             return false;
         }
         for (int other = 0; other < patches.count; other++) {
@@ -430,8 +422,9 @@ public final class LinkfactoryYard {
         return true;
     }
 
+    /** For a patch that waits. */
     private boolean isClear(int patch) {
-        if (!patches.isWaiting(patch) || patches.waitsBehind(stock, patch)) {
+        if (patches.waitsBehind(stock, patch)) {
             return false;
         }
         int piece = patches.piece.get(patch);
@@ -518,7 +511,6 @@ public final class LinkfactoryYard {
 
     private long mixFaults(long start) {
         long d = start;
-        linker.attempt(stock, reachFromNow, NONE);
         for (int k = 0; k < linker.faults; k++) {
             d = mix(d, tellFault(k, 0));
             d = mix(d, tellFault(k, 1));
@@ -688,7 +680,7 @@ public final class LinkfactoryYard {
         }
 
         boolean reachesSymbol(int piece, int symbol) {
-            return isInReach(places.get(piece), placeOfSymbol(symbol));
+            return isInReach(places.get(piece), places.get(stands.get(symbol)));
         }
 
         boolean reachesIsland(int piece, int object, int symbol) {
@@ -697,6 +689,20 @@ public final class LinkfactoryYard {
 
         private boolean isInReach(int from, int to) {
             return from != NONE && to != NONE && from - to <= reach && to - from <= reach;
+        }
+
+        /** Whether a near reference to it, of a laid piece, reaches neither its piece nor the island of its object. */
+        boolean losesSymbol(Stock stock, int symbol) {
+            for (int piece = 0; piece < stock.pieces; piece++) {
+                int references = isLaid(piece) ? stock.references.get(piece) : 0;
+                for (int k = 0; k < references; k++) {
+                    if (stock.isNear(piece, k) && stock.target(piece, k) == symbol && !reachesSymbol(piece, symbol)
+                            && !reachesIsland(piece, stock.owner.get(piece), symbol)) {
+                        return true;
+                    }
+                }
+            }
+            return false;
         }
     }
 
@@ -885,29 +891,11 @@ public final class LinkfactoryYard {
         }
 
         private void findOutOfReach(Stock stock) {
-            int bits = 0;
-            for (int piece = 0; piece < stock.pieces; piece++) {
-                if (layout.isLaid(piece)) {
-                    bits |= outOfReachBits(stock, piece);
-                }
-            }
             for (int symbol = 0; symbol < SYMBOLS; symbol++) {
-                if (((bits >> symbol) & 1) == 1) {
+                if (layout.losesSymbol(stock, symbol)) {
                     addFault(OUT_OF_REACH, symbol);
                 }
             }
-        }
-
-        private int outOfReachBits(Stock stock, int piece) {
-            int bits = 0;
-            for (int k = 0; k < stock.references.get(piece); k++) {
-                int symbol = stock.target(piece, k);
-                if (stock.isNear(piece, k) && !layout.reachesSymbol(piece, symbol)
-                        && !layout.reachesIsland(piece, stock.owner.get(piece), symbol)) {
-                    bits |= 1 << symbol;
-                }
-            }
-            return bits;
         }
     }
 
@@ -978,31 +966,11 @@ public final class LinkfactoryYard {
             layout.stands.set(symbol, piece);
             mark(firstBefore, stock.size.get(before), FREE, NONE);
             layout.places.set(before, NONE);
-            if (jumps.get(symbol) == NONE && needsJump(stock, symbol)) {
+            if (jumps.get(symbol) == NONE && layout.losesSymbol(stock, symbol)) {
                 mark(firstBefore, 1, JUMP, symbol);
                 jumps.set(symbol, firstBefore);
             }
             return true;
-        }
-
-        private boolean needsJump(Stock stock, int symbol) {
-            for (int piece = 0; piece < stock.pieces; piece++) {
-                if (layout.isLaid(piece) && losesSymbol(stock, piece, symbol)) {
-                    return true;
-                }
-            }
-            return false;
-        }
-
-        private boolean losesSymbol(Stock stock, int piece, int symbol) {
-            for (int k = 0; k < stock.references.get(piece); k++) {
-                if (stock.isNear(piece, k) && stock.target(piece, k) == symbol
-                        && !layout.reachesSymbol(piece, symbol)
-                        && !layout.reachesIsland(piece, stock.owner.get(piece), symbol)) {
-                    return true;
-                }
-            }
-            return false;
         }
     }
 
@@ -1075,7 +1043,7 @@ public final class LinkfactoryYard {
         /** How often one run comes back till the piece is not in its stack: down to the lowest place that has it. */
         private int backsOf(int run, int piece) {
             for (int k = 0; k < height.get(run); k++) {
-                if (entry(run, k) == piece) {
+                if (stacked.get(run * MOST_IN_STACK + k) == piece) {
                     return height.get(run) - k;
                 }
             }
