@@ -6,9 +6,12 @@ public final class LinkingTest {
     public static void main(String[] args) {
         orderOfArchives();
         archivesThatAreNotNeeded();
+        archivesForTheFirstOfTheirSymbols();
         strongBeforeWeak();
         islandsInTheirOrder();
         islandsThatPushOthersAway();
+        islandsOfTheFirstForTheFirst();
+        reachBothWays();
         linkWithRunsAndPatches();
         faultsOfSymbols();
         faultsOfReach();
@@ -64,6 +67,28 @@ public final class LinkingTest {
         check.due("P8 that of the first archive", x.ofSymbol(2, 0), 3);
         check.due("P9 not laid", x.ofPiece(2, 5), NONE);
         check.due("P9 nor the second archive's", x.ofPiece(4, 5), NONE);
+    }
+
+    /** Each archive is needed for its first piece's symbol, and has others behind it. */
+    private static void archivesForTheFirstOfTheirSymbols() {
+        LinkfactoryYard x = new LinkfactoryYard();
+        x.object(false);
+        x.object(true);
+        x.object(true);
+        x.piece(0, 15, 1, false);
+        x.piece(1, 0, 1, true);
+        x.piece(1, 8, 1, false);
+        x.piece(2, 9, 1, false);
+        x.piece(2, 7, 1, false);
+        x.refer(0, 0, false);
+        x.refer(1, 9, true);
+        x.refer(2, 15, false);
+        check.due("P6 links", x.link(), 0);
+        check.due("P12 all are in", x.many(2), 3);
+        check.due("P8 symbol 0 has what the archive has", x.ofSymbol(0, 0), 1);
+        check.due("P23 without that archive 0 is missing", x.faultsWithout(1), 1);
+        check.due("P23 without the other one 9 is", x.faultsWithout(2), 1);
+        check.due("P23 without the plain one there is nothing", x.faultsWithout(0), 0);
     }
 
     private static void strongBeforeWeak() {
@@ -142,6 +167,38 @@ public final class LinkingTest {
         check.due("P10 by the second island", x.steps(0, 0), 2);
     }
 
+    private static void islandsOfTheFirstForTheFirst() {
+        LinkfactoryYard x = new LinkfactoryYard();
+        x.object(false);
+        x.piece(0, 0, 20, false);
+        x.piece(0, 1, 3, false);
+        x.refer(1, 0, true);
+        x.reach(5);
+        check.due("P6 links", x.link(), 0);
+        check.due("P11 an island", x.map(23, 0), 2);
+        check.due("P11 for symbol 0", x.map(23, 1), 0);
+        check.due("P11 nothing behind it", x.map(24, 1), NONE);
+        check.due("P12 one island", x.many(4), 1);
+    }
+
+    private static void reachBothWays() {
+        LinkfactoryYard x = new LinkfactoryYard();
+        x.object(false);
+        x.piece(0, 0, 15, false);
+        x.piece(0, 1, 15, false);
+        x.refer(0, 1, true);
+        x.refer(1, 0, true);
+        x.reach(15);
+        check.due("P6 links", x.link(), 0);
+        check.due("P12 no island", x.many(4), 0);
+        check.due("P10 forwards, just in reach", x.steps(0, 0), 1);
+        check.due("P10 backwards, just in reach", x.steps(1, 0), 1);
+        x.reach(14);
+        int[][] due = {{3, 0}, {3, 1}};
+        check.due("P6 either way, the islands are out of reach too", x.link(), 2);
+        dueFaults(x, due);
+    }
+
     private static void linkWithRunsAndPatches() {
         LinkfactoryYard x = new LinkfactoryYard();
         x.object(false);
@@ -174,6 +231,11 @@ public final class LinkingTest {
         check.due("P6 the gate stays", y.gate(0, false), true);
         check.due("P6 the next patch is the first", y.patch(0, 1, 0, NONE), 0);
         check.due("P6 the next piece is the third", y.ofPatch(0, 1), 2);
+        check.due("P6 and is laid", y.ofPiece(2, 5), 4);
+        y.link();
+        y.run(0);
+        y.patch(0, 1, 0, NONE);
+        check.due("P6 the next one waits", y.ofPatch(0, 3), 0);
     }
 
     private static void faultsOfSymbols() {
@@ -193,13 +255,14 @@ public final class LinkingTest {
         x.refer(4, 12, false);
         x.refer(5, 11, false);
         x.reach(5);
-        int[][] due = {{1, 3}, {1, 7}, {2, 1}, {2, 12}};
-        check.due("P6 four faults", x.link(), 4);
+        x.refer(1, 0, false);
+        int[][] due = {{1, 3}, {1, 7}, {2, 0}, {2, 1}, {2, 12}};
+        check.due("P6 five faults", x.link(), 5);
         dueFaults(x, due);
         check.due("P6 no image", x.many(9), 0);
         check.due("P8 nothing stands", x.ofSymbol(7, 0), NONE);
         x.refer(0, 9, false);
-        int[][] withArchive = {{1, 3}, {1, 7}, {1, 9}, {2, 1}, {2, 11}, {2, 12}};
+        int[][] withArchive = {{1, 3}, {1, 7}, {1, 9}, {2, 0}, {2, 1}, {2, 11}, {2, 12}};
         dueFaults(x, withArchive);
     }
 
@@ -285,7 +348,10 @@ public final class LinkingTest {
         x.object(false);
         x.piece(0, 0, 4, false);
         check.outside("P10 not laid", () -> x.steps(0, 0));
+        x.refer(0, 0, true);
+        check.outside("P10 not laid, with a reference", () -> x.steps(0, 0));
         x.link();
+        check.due("P10 laid", x.steps(0, 0), 1);
         check.outside("P8 symbol 16", () -> x.ofSymbol(16, 0));
         check.outside("P8 symbol -1", () -> x.ofSymbol(-1, 4));
         check.badArgument("P8 what 4", () -> x.ofSymbol(15, 4));

@@ -12,6 +12,7 @@ public final class PatchesTest {
         islandsInsteadOfJumps();
         replacedPiecesNeedNoJump();
         oneForASymbolAtATime();
+        eightAtOnce();
         groupsWaitForAll();
         groupsThatAreStuck();
         groupsThatFail();
@@ -239,6 +240,19 @@ public final class PatchesTest {
         check.due("P8 the last one stands", x.ofSymbol(1, 0), 5);
         check.due("P8 the first went to 30, the second to 10, the third to 30 again", x.ofSymbol(1, 1), 30);
         check.due("P8 all in reach", x.ofSymbol(1, 2), NONE);
+    }
+
+    private static void eightAtOnce() {
+        LinkfactoryYard x = linked();
+        x.run(2);
+        for (int i = 0; i < 8; i++) {
+            x.patch(2, 1 + i, 0, NONE);
+        }
+        check.due("P12 eight wait", x.many(8), 8);
+        check.due("P8 for the symbol", x.ofSymbol(2, 3), 8);
+        x.back(0);
+        check.due("P12 none waits", x.many(8), 0);
+        check.due("P8 the last one stands", x.ofSymbol(2, 0), 10);
     }
 
     private static void groupsWaitForAll() {
