@@ -1,3 +1,5 @@
+import java.util.function.Consumer;
+
 /** Compares answers with those that are due, and ends a test with exit code 1 if there was a wrong one. */
 final class Check {
     private final String test;
@@ -56,6 +58,27 @@ final class Check {
             return;
         }
         tell(what, "nothing thrown", want.getName());
+    }
+
+    /** One that is refused: of two yards that are the same it is called on one, which shows the same then and later. */
+    void refused(String what, Class<?> want, Yards.Build build, Consumer<LinkfactoryYard> call) {
+        LinkfactoryYard called = build.make();
+        LinkfactoryYard twin = build.make();
+        dueThrow(what, want, () -> call.accept(called));
+        dueText(what + ", and nothing has changed", Yards.shown(called), Yards.shown(twin));
+        dueText(what + ", nor what comes later", Yards.later(called), Yards.later(twin));
+    }
+
+    void outside(String what, Yards.Build build, Consumer<LinkfactoryYard> call) {
+        refused(what, IndexOutOfBoundsException.class, build, call);
+    }
+
+    void badArgument(String what, Yards.Build build, Consumer<LinkfactoryYard> call) {
+        refused(what, IllegalArgumentException.class, build, call);
+    }
+
+    void badState(String what, Yards.Build build, Consumer<LinkfactoryYard> call) {
+        refused(what, IllegalStateException.class, build, call);
     }
 
     private void tell(String what, String got, String want) {

@@ -1,4 +1,4 @@
-/** Promises 21 to 25: what would be, and the checksum. */
+/** Promises 21 to 24: what would be; DigestTest looks at the checksum. */
 public final class WouldBeTest {
     private static final int NONE = -1;
     private static final Check check = new Check("WouldBeTest");
@@ -8,7 +8,6 @@ public final class WouldBeTest {
         islands();
         faults();
         places();
-        digests();
         nothingIsChanged();
         check.end();
     }
@@ -143,86 +142,6 @@ public final class WouldBeTest {
         x.piece(0, 10, 20, false);
         x.link();
         check.due("P24 nothing is free", x.place(1), NONE);
-    }
-
-    /** The checksum as the document tells it, from the other answers. */
-    private static long digestOf(LinkfactoryYard x) {
-        long d = 5737;
-        for (int what = 0; what <= 9; what++) {
-            d = d * 31 + x.many(what);
-        }
-        for (int symbol = 0; symbol < 16; symbol++) {
-            for (int what = 0; what <= 3; what++) {
-                d = d * 31 + x.ofSymbol(symbol, what);
-            }
-        }
-        for (int piece = 0; piece < x.many(1); piece++) {
-            for (int what = 0; what <= 6; what++) {
-                d = d * 31 + x.ofPiece(piece, what);
-            }
-            for (int k = 0; x.ofPiece(piece, 5) != NONE && k < x.ofPiece(piece, 4); k++) {
-                d = d * 31 + x.steps(piece, k);
-            }
-        }
-        for (int word = 0; word < 200; word++) {
-            d = (d * 31 + x.map(word, 0)) * 31 + x.map(word, 1);
-        }
-        for (int run = 0; run < 4; run++) {
-            int height = 0;
-            try {
-                x.stack(run, 0);
-                d = d * 31 + run;
-                for (; height < 8; height++) {
-                    d = d * 31 + x.stack(run, height);
-                }
-            } catch (IndexOutOfBoundsException e) {
-                check.due("P16 a run that is there has one at least", height == 8, false);
-            }
-        }
-        for (int patch = 0; patch < x.many(7); patch++) {
-            for (int what = 0; what <= 3; what++) {
-                d = d * 31 + x.ofPatch(patch, what);
-            }
-        }
-        try {
-            for (int k = 0; k < 33; k++) {
-                d = (d * 31 + x.fault(k, 0)) * 31 + x.fault(k, 1);
-            }
-        } catch (IndexOutOfBoundsException e) {
-            return d * 31 + x.islandsWith(5);
-        }
-        return d * 31 + x.islandsWith(5);
-    }
-
-    private static void digests() {
-        LinkfactoryYard x = new LinkfactoryYard();
-        check.due("P25 a new one", x.digest(), digestOf(x));
-        x.object(false);
-        x.object(true);
-        x.piece(0, 0, 10, false);
-        x.refer(0, 3, true);
-        x.refer(0, 4, true);
-        check.due("P25 with faults", x.digest(), digestOf(x));
-        x.piece(0, 4, 10, true);
-        x.piece(1, 3, 10, false);
-        x.piece(0, 3, 3, false);
-        x.reach(11);
-        check.due("P25 not linked", x.digest(), digestOf(x));
-        check.due("P25 links", x.link(), 1);
-        x.reach(20);
-        check.due("P25 links now", x.link(), 0);
-        check.due("P25 linked", x.digest(), digestOf(x));
-        x.run(0);
-        x.run(4);
-        x.call(0, 0);
-        x.back(1);
-        x.run(3);
-        x.patch(3, 2, 2, NONE);
-        x.patch(4, 20, 0, 0);
-        check.due("P25 with runs, and patches", x.digest(), digestOf(x));
-        x.back(0);
-        x.back(0);
-        check.due("P25 with a jump", x.digest(), digestOf(x));
     }
 
     private static void nothingIsChanged() {
