@@ -9,6 +9,7 @@ public final class LinkingEdgesTest {
         objectsWithoutPieces();
         aChainOfSevenArchives();
         theFirstThatIsNeededEachTime();
+        theFirstThatIsNeededAnew();
         noArchiveNeedsItself();
         aWeakOneIsEnough();
         strongOnesThatComeLater();
@@ -26,6 +27,7 @@ public final class LinkingEdgesTest {
         mostFaults();
         twoHundredWords();
         twoHundredWordsWithIslands();
+        whatIsBehindTheLastIsFree();
         runsThatAreOver();
         withFaultsAllStays();
         withoutFaultsPatchesAreGone();
@@ -159,6 +161,23 @@ public final class LinkingEdgesTest {
         }
     }
 
+    /** 1 is in for the plain one; 0, that it refers to, comes before 2, that was needed already. */
+    private static void theFirstThatIsNeededAnew() {
+        LinkfactoryYard x = new LinkfactoryYard();
+        for (int object = 0; object < 4; object++) {
+            x.object(object < 3);
+            x.piece(object, object, object + 1, false);
+        }
+        x.refer(3, 1, false);
+        x.refer(3, 2, false);
+        x.refer(1, 0, false);
+        check.due("P6 no faults", x.link(), 0);
+        int[] places = {6, 4, 7, 0};
+        for (int piece = 0; piece < 4; piece++) {
+            check.due("P9 place of " + piece, x.ofPiece(piece, 5), places[piece]);
+        }
+    }
+
     /** "that a PIECE of an OBJECT that is IN refers to": not one of itself. */
     private static void noArchiveNeedsItself() {
         LinkfactoryYard x = objects(1, 2);
@@ -189,6 +208,8 @@ public final class LinkingEdgesTest {
             check.due("P6 no faults", x.link(), 0);
             check.due("P12 it is not needed any more", x.many(2), 2);
             check.due("P8 that of the plain one", x.ofSymbol(5, 0), 2);
+            check.due("P9 that of the archive is not laid any more", x.ofPiece(1, 5), NONE);
+            check.due("P11 so its word is of the other one", x.map(1, 1), 2);
         }
     }
 
@@ -554,6 +575,25 @@ public final class LinkingEdgesTest {
         z.refer(9, 0, true);
         dueFaults("P6 200 words and an island", z, new int[] {4, NONE});
         check.due("P22 one island all the same", z.islandsWith(40), 1);
+    }
+
+    /** "of which those behind the last one that is laid are FREE": also what was not free in the image before. */
+    private static void whatIsBehindTheLastIsFree() {
+        LinkfactoryYard x = Yards.fullAndLinked();
+        check.due("P11 an island in the last word", x.map(199, 0), 2);
+        x.reach(100);
+        check.due("P6 links", x.link(), 0);
+        check.due("P12 fewer islands", x.many(4), 5);
+        check.due("P11 the last word is free", x.map(199, 0), 0);
+        check.due("P11 for nothing", x.map(199, 1), NONE);
+        check.due("P24 three words", x.place(3), 197);
+        LinkfactoryYard y = sizes(20, 20, 20, 20, 20, 20, 20, 20, 20, 19);
+        y.link();
+        y.patch(0, 1, 0, NONE);
+        check.due("P11 a patch in the last word", y.map(199, 1), 10);
+        y.link();
+        check.due("P11 it is free again", y.map(199, 0), 0);
+        check.due("P24 it alone", y.place(1), 199);
     }
 
     // ---- linking again
